@@ -245,8 +245,8 @@ public final class FeederRelays {
         }
     }
 
-    // A relay always has a smaller number than those below it: one pass down
-    // the numbers tells what is fed, one pass back adds up what flows.
+    // A relay always has a smaller number than those below it: one pass up
+    // the numbers tells what is fed, one pass back down adds what flows.
     private void findFlows() {
         for (int r = 0; r < count; r++) {
             Relay relay = relays[r];
@@ -543,13 +543,11 @@ public final class FeederRelays {
             comesAt[place] = lag == CUT ? NEVER : now + lag;
         }
 
+        // The same number always tells the same state: taking such a message
+        // anew changes only when it came.
         private void learn(int message, int now) {
-            int fresh = message >> 1;
-            int old = knownMessage >> 1;
-            if (fresh > old) {
+            if (message >> 1 >= knownMessage >> 1) {
                 knownMessage = message;
-            }
-            if (fresh >= old) {
                 cameAt = now;
             }
         }

@@ -14,6 +14,7 @@ public final class EventTest {
         crashLeavesAllElse();
         crashWithoutRelays();
         twoHundredEvents();
+        placesBelowTwoHundredAfterACrash();
         CHECK.end();
     }
 
@@ -109,6 +110,10 @@ public final class EventTest {
         CHECK.due("changes begin anew", x.changes(1), 1);
         CHECK.due("known begins anew", x.known(1), 3);
         CHECK.due("sum begins anew", x.sum(1), 4);
+        x.crash();
+        x.fault(1, 1);
+        x.run(3);
+        CHECK.due("every sample was 0", x.effective(1), 0);
     }
 
     private static void crashTakesMessagesUnderWay() {
@@ -194,15 +199,24 @@ public final class EventTest {
         CHECK.due("time()", x.time(), 4);
     }
 
-    private static void twoHundredEvents() {
-        // Each round has 7 orders, then 7 openings with 7 locks: 21 events.
+    private static void closeSeven(FeederRelays x) {
+        for (int r = 1; r < 8; r++) {
+            x.operate(r, true);
+        }
+    }
+
+    /** Nine rounds of 7 orders, 7 openings and 7 locks: 189 events, all stored, at time 180. */
+    private static FeederRelays nineRounds() {
         FeederRelays x = sevenAtOnce();
         for (int round = 0; round < 9; round++) {
             x.run(20);
-            for (int r = 1; r < 8; r++) {
-                x.operate(r, true);
-            }
+            closeSeven(x);
         }
+        return x;
+    }
+
+    private static void twoHundredEvents() {
+        FeederRelays x = nineRounds();
         CHECK.due("events() after 9 rounds", x.events(), 189);
         x.run(1);
         CHECK.due("events() with 7 more", x.events(), 196);
@@ -217,10 +231,21 @@ public final class EventTest {
         CHECK.due("what is not recorded still happens", x.state(7), 2 + 16);
         x.run(20);
         CHECK.due("crash() when all are stored", x.crash(), 0);
-        for (int r = 1; r < 8; r++) {
-            x.operate(r, true);
-        }
+        closeSeven(x);
         x.run(20);
         CHECK.due("no more than 200", x.events(), 200);
+    }
+
+    private static void placesBelowTwoHundredAfterACrash() {
+        FeederRelays x = nineRounds();
+        x.run(3);
+        CHECK.due("events() at 183", x.events(), 200);
+        CHECK.due("crash() with 6 of 11 stored", x.crash(), 5);
+        CHECK.due("events() after it", x.events(), 195);
+        closeSeven(x);
+        x.run(1);
+        CHECK.due("events() when 5 of 7 had a place", x.events(), 200);
+        CHECK.due("event(199)", x.event(199), 1 + 8 * 5);
+        CHECK.due("when(199)", x.when(199), 184);
     }
 }

@@ -7,6 +7,7 @@ public final class MessageTest {
         cutLine();
         cutHoldsWhatIsUnderWay();
         laterMessagesOvertake();
+        theGreatestNumberStays();
         twoThatComeAtOnce();
         messagesAreRepeated();
         blockedForTwelveTicks();
@@ -97,6 +98,22 @@ public final class MessageTest {
         Check.runTo(x, 10);
         CHECK.due("the earlier one is not taken", x.known(1), 4);
         CHECK.due("not blocked by it", x.state(0), 1);
+    }
+
+    private static void theGreatestNumberStays() {
+        FeederRelays x = heldPair(0);
+        x.fault(1, 1000);
+        x.run(1);
+        x.line(1, 8);
+        x.settings(1, 0, 5000, 1000);
+        x.run(1);
+        x.line(1, 1);
+        x.settings(1, 0, 100, 1000);
+        x.run(2);
+        CHECK.due("number 3 comes at 4", x.known(1), 7);
+        Check.runTo(x, 10);
+        CHECK.due("number 2, not picked up, comes at 10", x.known(1), 7);
+        CHECK.due("blocked all the same", x.state(0), 1 + 64);
     }
 
     private static void twoThatComeAtOnce() {

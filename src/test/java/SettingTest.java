@@ -43,10 +43,12 @@ public final class SettingTest {
         x.load(0, 100);
         x.run(20);
         CHECK.due("100 does not pick up at first", x.state(0), 1);
-        x.load(0, 200);
-        x.run(5);
+        x.load(0, 101);
+        x.run(4);
+        CHECK.due("101 picks up at first", x.state(0), 3);
+        x.run(4);
         CHECK.due("sum by kind 0 at first", x.sum(0), 5);
-        CHECK.events("time 5 at first", x, 1, 0, 25);
+        CHECK.events("time 5 at first", x, 1, 0, 28);
     }
 
     private static void settingsRefusedChangeNothing() {
