@@ -24,27 +24,8 @@ public final class BreakerTest {
         CHECK.end();
     }
 
-    /** A relay of its own that trips in the first tick of a fault of 1000. */
-    private static FeederRelays quick(int shots) {
-        FeederRelays x = Check.chain(1);
-        x.settings(0, 0, 100, 1);
-        x.options(0, false, shots, 50);
-        x.fault(0, 1000);
-        return x;
-    }
-
-    /** Two in a chain; the lower one trips in its first tick, the upper one never by itself. */
-    private static FeederRelays pair(int patience) {
-        FeederRelays x = Check.chain(2);
-        x.settings(0, 0, 5000, 1000);
-        x.settings(1, 0, 100, 1);
-        x.options(1, false, 0, patience);
-        x.fault(1, 1000);
-        return x;
-    }
-
     private static void threeShotsThenLocked() {
-        FeederRelays x = quick(3);
+        FeederRelays x = Scenes.quick(3);
         x.run(1);
         CHECK.due("ordered", x.state(0), 1 + 2 + 4);
         x.run(1);
@@ -75,7 +56,7 @@ public final class BreakerTest {
     }
 
     private static void reclaimAfterThirtyTicks() {
-        FeederRelays x = quick(1);
+        FeederRelays x = Scenes.quick(1);
         x.run(3);
         x.fault(0, 0);
         Check.runTo(x, 37);
@@ -90,7 +71,7 @@ public final class BreakerTest {
     }
 
     private static void noReclaimWithAnOrder() {
-        FeederRelays x = quick(2);
+        FeederRelays x = Scenes.quick(2);
         x.run(3);
         x.jam(0, true);
         Check.runTo(x, 50);
@@ -101,7 +82,7 @@ public final class BreakerTest {
     }
 
     private static void fewerShotsWhileWaiting() {
-        FeederRelays x = quick(1);
+        FeederRelays x = Scenes.quick(1);
         x.run(4);
         x.options(0, false, 0, 50);
         Check.runTo(x, 10);
@@ -111,7 +92,7 @@ public final class BreakerTest {
     }
 
     private static void jamHoldsTheBreaker() {
-        FeederRelays x = quick(0);
+        FeederRelays x = Scenes.quick(0);
         CHECK.yes("jam(0, true)", x.jam(0, true));
         CHECK.due("jammed", x.state(0), 1 + 32);
         x.run(20);
@@ -126,7 +107,7 @@ public final class BreakerTest {
     }
 
     private static void jamDoesNotHoldClosing() {
-        FeederRelays x = quick(1);
+        FeederRelays x = Scenes.quick(1);
         x.run(3);
         x.fault(0, 0);
         x.jam(0, true);
@@ -136,7 +117,7 @@ public final class BreakerTest {
     }
 
     private static void failingOrdersTheOneAbove() {
-        FeederRelays x = pair(4);
+        FeederRelays x = Scenes.pair(4);
         x.jam(1, true);
         x.run(4);
         CHECK.events("not yet failed", x, 1, 1, 1);
@@ -149,7 +130,7 @@ public final class BreakerTest {
     }
 
     private static void failingOncePerOrder() {
-        FeederRelays x = pair(3);
+        FeederRelays x = Scenes.pair(3);
         x.jam(0, true);
         x.jam(1, true);
         x.run(20);
@@ -160,7 +141,7 @@ public final class BreakerTest {
     }
 
     private static void failingOnlyWhenPickedUp() {
-        FeederRelays x = pair(8);
+        FeederRelays x = Scenes.pair(8);
         x.jam(1, true);
         x.run(1);
         x.fault(1, 0);
@@ -185,7 +166,7 @@ public final class BreakerTest {
         CHECK.events("one order above for two that fail", x,
             1, 1, 1, 1, 2, 1, 6, 1, 3, 7, 0, 3, 6, 2, 3, 2, 0, 5, 5, 0, 5);
 
-        FeederRelays y = pair(2);
+        FeederRelays y = Scenes.pair(2);
         y.jam(1, true);
         y.run(2);
         y.operate(0, false);
@@ -193,7 +174,7 @@ public final class BreakerTest {
         CHECK.events("no order for an open breaker above", y, 1, 1, 1, 6, 1, 3);
         CHECK.due("the open one above", y.state(0), 16);
 
-        FeederRelays z = quick(0);
+        FeederRelays z = Scenes.quick(0);
         z.options(0, false, 0, 2);
         z.jam(0, true);
         z.run(3);
@@ -201,7 +182,7 @@ public final class BreakerTest {
     }
 
     private static void orderFromBelowLocks() {
-        FeederRelays x = pair(3);
+        FeederRelays x = Scenes.pair(3);
         x.options(0, false, 3, 10);
         x.jam(1, true);
         x.run(6);
@@ -210,7 +191,7 @@ public final class BreakerTest {
     }
 
     private static void patienceOfOne() {
-        FeederRelays x = pair(1);
+        FeederRelays x = Scenes.pair(1);
         x.run(4);
         CHECK.events("fails before it can open", x,
             1, 1, 1, 6, 1, 2, 7, 0, 2, 2, 1, 3, 5, 1, 3, 2, 0, 4, 5, 0, 4);
@@ -231,7 +212,7 @@ public final class BreakerTest {
     }
 
     private static void operateClosesAndClears() {
-        FeederRelays x = quick(0);
+        FeederRelays x = Scenes.quick(0);
         x.run(20);
         CHECK.due("locked", x.state(0), 16);
         x.fault(0, 0);
@@ -243,7 +224,7 @@ public final class BreakerTest {
     }
 
     private static void operateTakesTheOrder() {
-        FeederRelays x = quick(0);
+        FeederRelays x = Scenes.quick(0);
         x.run(1);
         x.fault(0, 0);
         x.operate(0, true);
@@ -255,7 +236,7 @@ public final class BreakerTest {
     }
 
     private static void operateStopsWaiting() {
-        FeederRelays x = quick(3);
+        FeederRelays x = Scenes.quick(3);
         Check.runTo(x, 12);
         CHECK.due("waiting with a shot used", x.state(0), 2 + 8);
         CHECK.due("used", x.used(0), 1);

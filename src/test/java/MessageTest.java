@@ -9,8 +9,7 @@ public final class MessageTest {
         laterMessagesOvertake();
         theGreatestNumberStays();
         twoThatComeAtOnce();
-        messagesAreRepeated();
-        blockedForTwelveTicks();
+        noMessageBeforeAChange();
         repeatsKeepBlocking();
         blockedHoldsTheTripBack();
         notBlockedWhenNotPickedUp();
@@ -20,19 +19,9 @@ public final class MessageTest {
         CHECK.end();
     }
 
-    /** A chain of two, the upper one held back; neither trips by itself. */
-    private static FeederRelays heldPair(int lag) {
-        FeederRelays x = Check.chain(2);
-        x.settings(0, 0, 5000, 1000);
-        x.settings(1, 0, 100, 1000);
-        x.options(0, true, 0, 50);
-        x.line(1, lag);
-        return x;
-    }
-
     private static void lags() {
         for (int lag = 1; lag <= 8; lag++) {
-            FeederRelays x = heldPair(lag);
+            FeederRelays x = Scenes.heldPair(lag);
             x.fault(1, 1000);
             Check.runTo(x, lag);
             CHECK.due("known before lag " + lag, x.known(1), 0);
@@ -57,7 +46,7 @@ public final class MessageTest {
     }
 
     private static void cutLine() {
-        FeederRelays x = heldPair(0);
+        FeederRelays x = Scenes.heldPair(0);
         x.fault(1, 1000);
         x.run(20);
         CHECK.due("nothing comes through a cut line", x.known(1), 0);
@@ -71,7 +60,7 @@ public final class MessageTest {
     }
 
     private static void cutHoldsWhatIsUnderWay() {
-        FeederRelays x = heldPair(5);
+        FeederRelays x = Scenes.heldPair(5);
         x.fault(1, 1000);
         x.run(1);
         x.line(1, 0);
@@ -82,7 +71,7 @@ public final class MessageTest {
     }
 
     private static void laterMessagesOvertake() {
-        FeederRelays x = heldPair(8);
+        FeederRelays x = Scenes.heldPair(8);
         x.fault(1, 150);
         // Effective currents 75, 106: picked up at 2, sent with lag 8 for 10.
         x.run(2);
@@ -101,7 +90,7 @@ public final class MessageTest {
     }
 
     private static void theGreatestNumberStays() {
-        FeederRelays x = heldPair(0);
+        FeederRelays x = Scenes.heldPair(0);
         x.fault(1, 1000);
         x.run(1);
         x.line(1, 8);
@@ -117,7 +106,7 @@ public final class MessageTest {
     }
 
     private static void twoThatComeAtOnce() {
-        FeederRelays x = heldPair(4);
+        FeederRelays x = Scenes.heldPair(4);
         x.fault(1, 1000);
         x.run(1);
         x.line(1, 3);
@@ -131,53 +120,14 @@ public final class MessageTest {
         CHECK.due("both at 5", x.known(1), 4);
     }
 
-    private static void messagesAreRepeated() {
-        // The change is at 1; repeats follow after 1, 2, 4, 8, 8 ticks. With the
-        // line whole only for one tick, what comes tells whether that tick sends.
-        for (int tick = 2; tick <= 45; tick++) {
-            FeederRelays x = heldPair(0);
-            x.fault(1, 1000);
-            Check.runTo(x, tick - 1);
-            x.line(1, 1);
-            x.run(1);
-            x.line(1, 0);
-            x.run(1);
-            boolean sends = tick == 2 || tick == 4 || tick == 8 || tick >= 16 && tick % 8 == 0;
-            CHECK.due("known of a repeat at " + tick, x.known(1), sends ? 3 : 0);
-        }
-        // A change makes the gaps short again.
-        for (int tick = 21; tick <= 40; tick++) {
-            FeederRelays x = heldPair(0);
-            x.fault(1, 1000);
-            x.run(20);
-            x.settings(1, 0, 5000, 1000);
-            Check.runTo(x, tick - 1);
-            x.line(1, 1);
-            x.run(1);
-            x.line(1, 0);
-            x.run(1);
-            boolean sends = tick == 21 || tick == 22 || tick == 24 || tick == 28 || tick == 36;
-            CHECK.due("known after a change at 21 of one at " + tick, x.known(1), sends ? 4 : 0);
-        }
-        FeederRelays still = heldPair(1);
-        still.run(20);
-        CHECK.due("no message before a change", still.known(1), 0);
-    }
-
-    private static void blockedForTwelveTicks() {
-        FeederRelays x = heldPair(1);
-        x.fault(1, 1000);
-        x.run(1);
-        x.line(1, 0);
-        Check.runTo(x, 14);
-        CHECK.due("blocked 12 ticks after it came", x.state(0), 1 + 64);
-        x.run(1);
-        CHECK.due("not blocked 13 ticks after", x.state(0), 1);
-        CHECK.due("still known", x.known(1), 3);
+    private static void noMessageBeforeAChange() {
+        FeederRelays x = Scenes.heldPair(1);
+        x.run(20);
+        CHECK.due("known without a change", x.known(1), 0);
     }
 
     private static void repeatsKeepBlocking() {
-        FeederRelays x = heldPair(1);
+        FeederRelays x = Scenes.heldPair(1);
         x.fault(1, 1000);
         x.run(2);
         for (int i = 0; i < 100; i++) {
@@ -213,7 +163,7 @@ public final class MessageTest {
     }
 
     private static void notBlockedWhenNotPickedUp() {
-        FeederRelays x = heldPair(1);
+        FeederRelays x = Scenes.heldPair(1);
         x.fault(1, 1000);
         x.run(5);
         x.fault(1, 0);

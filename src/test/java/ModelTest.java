@@ -4,8 +4,10 @@ import java.util.Random;
 
 /** Promises 1 to 22 on many runs of chosen calls: every answer is that of the plain model. */
 public final class ModelTest {
-    private static final int RUNS = 3000;
-    private static final int CALLS = 150;
+    private static final int RUNS = 10000;
+    // An object is good for so many calls; the last of them look at all that it shows.
+    private static final int MOST_CALLS = 512;
+    private static final int LAST_LOOK = 100;
 
     private final Random random;
     private final FeederRelays x = new FeederRelays();
@@ -13,19 +15,22 @@ public final class ModelTest {
     private final List<String> calls = new ArrayList<>();
     private final boolean stormy;
     private int relays;
+    private int made;
     private boolean wrong;
     private int lossyCrashes;
+    private int fullCrashes;
     private int blockedStates;
 
     private ModelTest(long seed) {
         random = new Random(seed);
-        stormy = seed % 3 == 0;
+        stormy = seed % 5 == 0;
     }
 
     public static void main(String[] args) {
         int[] seen = new int[8];
         int full = 0;
         int crashes = 0;
+        int fullCrashes = 0;
         int blocked = 0;
         for (int seed = 0; seed < RUNS; seed++) {
             ModelTest test = new ModelTest(seed);
@@ -33,11 +38,12 @@ public final class ModelTest {
             if (test.wrong) {
                 System.exit(1);
             }
-            for (int i = 0; i < test.x.events(); i++) {
-                seen[test.x.event(i) % 8]++;
+            for (int i = 0; i < test.model.events(); i++) {
+                seen[test.model.event(i) % 8]++;
             }
-            full += test.x.events() == 200 ? 1 : 0;
+            full += test.model.events() == 200 ? 1 : 0;
             crashes += test.lossyCrashes;
+            fullCrashes += test.fullCrashes;
             blocked += test.blockedStates;
         }
         // The runs are worth something only if all of this happens in them.
@@ -46,6 +52,7 @@ public final class ModelTest {
         }
         require("full records", full);
         require("crashes that took events", crashes);
+        require("crashes that took some of 200", fullCrashes);
         require("blocked relays", blocked);
         System.out.println(RUNS + " runs, all as the model");
     }
@@ -59,27 +66,76 @@ public final class ModelTest {
     }
 
     private void wholeRun() {
-        int wanted = 1 + random.nextInt(8);
+        makeRelays();
+        while (made < MOST_CALLS - LAST_LOOK && !wrong) {
+            if (stormy) {
+                storm();
+            } else {
+                oneCall();
+            }
+            blockedStates += model.state(0) >= 64 ? 1 : 0;
+            compareOne();
+            compareOne();
+        }
+        compareAll();
+    }
+
+    private void makeRelays() {
+        int wanted = stormy ? 8 : 1 + random.nextInt(8);
         for (int i = 0; i < wanted; i++) {
-            int above = i == 0 ? -1 : random.nextInt(i);
+            int above = i == 0 ? -1 : stormy ? 0 : random.nextInt(i);
             same("relay(" + above + ")", x.relay(above), model.relay(above));
             relays++;
         }
-        for (int i = 0; i < 3 * relays; i++) {
+        for (int i = 0; i < 3 * relays && !stormy; i++) {
             set();
         }
-        for (int i = 0; i < CALLS && !wrong; i++) {
-            int choice = random.nextInt(10);
-            if (choice < 5) {
-                int ticks = random.nextInt(3) > 0 ? 1 + random.nextInt(3) : random.nextInt(23);
-                same("run(" + ticks + ")", x.run(ticks), model.run(ticks));
-            } else if (choice < 9) {
-                set();
-            } else {
-                rare();
-            }
-            compareAll();
+        for (int r = 0; r < relays && stormy; r++) {
+            int pickup = r == 0 ? 5000 : 50;
+            same("settings(" + r + ", 0, " + pickup + ", 1)",
+                x.settings(r, 0, pickup, 1), model.settings(r, 0, pickup, 1));
+            same("fault(" + r + ", 400)", x.fault(r, 400), model.fault(r, 400));
         }
+    }
+
+    private void oneCall() {
+        int choice = random.nextInt(10);
+        if (choice < 5) {
+            run(random.nextInt(3) > 0 ? 1 + random.nextInt(3) : random.nextInt(23));
+        } else if (choice < 9) {
+            set();
+        } else {
+            rare();
+        }
+    }
+
+    /** All are closed by hand and trip again: so many events that the record gets full. */
+    private void storm() {
+        for (int r = 0; r < relays; r++) {
+            operate(r, true);
+        }
+        run(3 + random.nextInt(6));
+        if (random.nextInt(4) == 0) {
+            set();
+        }
+        if (random.nextInt(5) == 0) {
+            crash();
+        }
+    }
+
+    private void run(int ticks) {
+        same("run(" + ticks + ")", x.run(ticks), model.run(ticks));
+    }
+
+    private void operate(int r, boolean closed) {
+        same("operate(" + r + ", " + closed + ")", x.operate(r, closed), model.operate(r, closed));
+    }
+
+    private void crash() {
+        int before = model.events();
+        same("crash()", x.crash(), model.crash());
+        lossyCrashes += model.events() < before ? 1 : 0;
+        fullCrashes += model.events() < before && before == 200 ? 1 : 0;
     }
 
     private int oneOf(int... values) {
@@ -127,22 +183,15 @@ public final class ModelTest {
     }
 
     private void rare() {
-        int r = someRelay();
-        if (stormy || random.nextInt(4) > 0) {
-            for (int i = 0; i < (stormy ? relays : 1); i++) {
-                int which = stormy ? i : r;
-                boolean closed = stormy || random.nextInt(4) > 0;
-                same("operate(" + which + ", " + closed + ")", x.operate(which, closed), model.operate(which, closed));
-            }
+        if (random.nextInt(4) > 0) {
+            operate(someRelay(), random.nextInt(4) > 0);
         } else if (random.nextInt(3) > 0) {
-            int before = x.events();
-            same("crash()", x.crash(), model.crash());
-            lossyCrashes += x.events() < before ? 1 : 0;
+            crash();
         } else {
             int above = random.nextInt(10) - 1;
-            int got = x.relay(above);
-            same("relay(" + above + ")", got, model.relay(above));
-            relays += got >= 0 ? 1 : 0;
+            int number = model.relay(above);
+            same("relay(" + above + ")", x.relay(above), number);
+            relays += number >= 0 ? 1 : 0;
         }
     }
 
@@ -156,6 +205,7 @@ public final class ModelTest {
     }
 
     private void compare(String call, long got, long want) {
+        made++;
         if (got != want && !wrong) {
             wrong = true;
             calls.forEach(System.out::println);
@@ -163,20 +213,40 @@ public final class ModelTest {
         }
     }
 
+    private void compareOne() {
+        int r = someRelay();
+        int i = random.nextInt(4) == 0 ? model.events() : model.events() - 1 - random.nextInt(4);
+        switch (random.nextInt(11)) {
+            case 0 -> compare("time()", x.time(), model.time());
+            case 1 -> compare("events()", x.events(), model.events());
+            case 2 -> compare("event(" + i + ")", x.event(i), model.event(i));
+            case 3 -> compare("when(" + i + ")", x.when(i), model.when(i));
+            default -> compareOf(r, random.nextInt(7));
+        }
+    }
+
+    private void compareOf(int r, int which) {
+        String of = "(" + r + ")";
+        switch (which) {
+            case 0 -> compare("current" + of, x.current(r), model.current(r));
+            case 1 -> compare("state" + of, x.state(r), model.state(r));
+            case 2 -> compare("sum" + of, x.sum(r), model.sum(r));
+            case 3 -> compare("used" + of, x.used(r), model.used(r));
+            case 4 -> compare("changes" + of, x.changes(r), model.changes(r));
+            case 5 -> compare("known" + of, x.known(r), model.known(r));
+            default -> compare("effective" + of, x.effective(r), model.effective(r));
+        }
+    }
+
     private void compareAll() {
         compare("time()", x.time(), model.time());
         compare("events()", x.events(), model.events());
         for (int r = -1; r <= 8; r++) {
-            compare("current(" + r + ")", x.current(r), model.current(r));
-            compare("state(" + r + ")", x.state(r), model.state(r));
-            compare("sum(" + r + ")", x.sum(r), model.sum(r));
-            compare("used(" + r + ")", x.used(r), model.used(r));
-            compare("changes(" + r + ")", x.changes(r), model.changes(r));
-            compare("known(" + r + ")", x.known(r), model.known(r));
-            compare("effective(" + r + ")", x.effective(r), model.effective(r));
-            blockedStates += x.state(r) >= 64 ? 1 : 0;
+            for (int which = 0; which < 7; which++) {
+                compareOf(r, which);
+            }
         }
-        for (int i = -1; i <= x.events(); i++) {
+        for (int i = model.events(); i >= -1 && made <= MOST_CALLS - 2; i--) {
             compare("event(" + i + ")", x.event(i), model.event(i));
             compare("when(" + i + ")", x.when(i), model.when(i));
         }

@@ -1,41 +1,19 @@
-/** Promises 3 to 6 and 8: what is set, at the edges, and what is refused and changes nothing. */
+/** Promises 3 to 6 and 8: what is set, what it is at first, and from when on; BoundsTest has the bounds. */
 public final class SettingTest {
     private static final int LEAST = Integer.MIN_VALUE;
     private static final int MOST = Integer.MAX_VALUE;
     private static final Check CHECK = new Check();
 
     public static void main(String[] args) {
-        settingsEdges();
         settingsAtFirst();
         settingsRefusedChangeNothing();
         settingsFromTheNextMeasuringOn();
-        optionsEdges();
         optionsAtFirst();
         optionsRefusedChangeNothing();
         loadEdges();
         faultEdges();
-        lineEdges();
         lineRefusedChangesNothing();
         CHECK.end();
-    }
-
-    private static void settingsEdges() {
-        FeederRelays x = Check.chain(2);
-        for (int kind : new int[] {LEAST, -1, 3, MOST}) {
-            CHECK.no("settings kind " + kind, x.settings(1, kind, 100, 5));
-        }
-        for (int pickup : new int[] {LEAST, -1, 0, 5001, MOST}) {
-            CHECK.no("settings pickup " + pickup, x.settings(1, 0, pickup, 5));
-        }
-        for (int time : new int[] {LEAST, -1, 0, 1001, MOST}) {
-            CHECK.no("settings time " + time, x.settings(1, 0, 100, time));
-        }
-        for (int kind = 0; kind <= 2; kind++) {
-            CHECK.yes("settings least", x.settings(1, kind, 1, 1));
-            CHECK.yes("settings most", x.settings(1, kind, 5000, 1000));
-        }
-        CHECK.no("settings of relay 2", x.settings(2, 0, 100, 5));
-        CHECK.no("settings of relay -1", x.settings(-1, 0, 100, 5));
     }
 
     private static void settingsAtFirst() {
@@ -82,20 +60,6 @@ public final class SettingTest {
         x.run(1);
         CHECK.due("not picked up by the new pickup", x.state(0), 1);
         CHECK.due("sum 0 by the new pickup", x.sum(0), 0);
-    }
-
-    private static void optionsEdges() {
-        FeederRelays x = Check.chain(2);
-        for (int shots : new int[] {LEAST, -1, 4, MOST}) {
-            CHECK.no("options shots " + shots, x.options(1, true, shots, 10));
-        }
-        for (int patience : new int[] {LEAST, -1, 0, 51, MOST}) {
-            CHECK.no("options patience " + patience, x.options(1, true, 0, patience));
-        }
-        CHECK.yes("options least", x.options(1, false, 0, 1));
-        CHECK.yes("options most", x.options(1, true, 3, 50));
-        CHECK.no("options of relay 2", x.options(2, false, 0, 10));
-        CHECK.no("options of relay -1", x.options(-1, false, 0, 10));
     }
 
     private static void optionsAtFirst() {
@@ -152,19 +116,6 @@ public final class SettingTest {
         CHECK.due("current of the load alone", x.current(1), 2000);
         CHECK.no("fault of relay 2", x.fault(2, 1));
         CHECK.no("fault of relay -1", x.fault(-1, 1));
-    }
-
-    private static void lineEdges() {
-        FeederRelays x = Check.chain(2);
-        for (int lag : new int[] {LEAST, -1, 9, MOST}) {
-            CHECK.no("line lag " + lag, x.line(1, lag));
-        }
-        for (int lag = 0; lag <= 8; lag++) {
-            CHECK.yes("line lag " + lag, x.line(1, lag));
-            CHECK.yes("line of relay 0", x.line(0, lag));
-        }
-        CHECK.no("line of relay 2", x.line(2, 1));
-        CHECK.no("line of relay -1", x.line(-1, 1));
     }
 
     private static void lineRefusedChangesNothing() {
