@@ -18,7 +18,10 @@ public final class BreakerTest {
         operateOpensAndLocks();
         operateClosesAndClears();
         operateTakesTheOrder();
+        operateOpensWithAnOrder();
         operateStopsWaiting();
+        operateClosesTheWaitingOne();
+        operateLeavesTheRest();
         operateJammed();
         stateOfNone();
         CHECK.end();
@@ -250,6 +253,53 @@ public final class BreakerTest {
         CHECK.due("all shots are there again", x.state(0), 2 + 8);
         Check.runTo(x, 108);
         CHECK.due("the first wait again", x.used(0), 1);
+    }
+
+    private static void operateOpensWithAnOrder() {
+        FeederRelays x = Scenes.quick(1);
+        x.run(1);
+        x.operate(0, false);
+        CHECK.due("open, without an order", x.state(0), 2 + 16);
+        x.run(20);
+        CHECK.due("it stays open", x.state(0), 16);
+        CHECK.events("no event of opening", x, 1, 0, 1);
+    }
+
+    private static void operateClosesTheWaitingOne() {
+        FeederRelays x = Scenes.quick(1);
+        x.run(4);
+        x.fault(0, 0);
+        CHECK.due("waiting", x.state(0), 2 + 8);
+        x.operate(0, true);
+        CHECK.due("closed, not waiting", x.state(0), 1 + 2);
+        x.settings(0, 0, 5000, 1000);
+        Check.runTo(x, 50);
+        CHECK.due("no shot used", x.used(0), 0);
+        CHECK.events("no event of closing or reclaiming", x, 1, 0, 1, 2, 0, 3);
+    }
+
+    // What operate does not name stays: what is measured, sent and known.
+    private static void operateLeavesTheRest() {
+        FeederRelays x = Scenes.heldPair(2);
+        x.fault(1, 1000);
+        x.run(4);
+        for (boolean closed : new boolean[] {false, true}) {
+            x.operate(1, closed);
+            CHECK.due("picked up", x.state(1), closed ? 1 + 2 : 2 + 16);
+            CHECK.due("sum", x.sum(1), 4);
+            CHECK.due("effective", x.effective(1), 1000);
+            CHECK.due("changes", x.changes(1), 1);
+            CHECK.due("known", x.known(1), 3);
+            x.operate(0, closed);
+            CHECK.due("the one above is blocked", x.state(0), closed ? 1 + 64 : 16 + 64);
+            CHECK.due("known by the one above", x.known(1), 3);
+        }
+        // The one sent at 4 comes at 6, the next one is sent at 8.
+        x.line(1, 0);
+        Check.runTo(x, 18);
+        CHECK.due("12 ticks after it came", x.state(0), 1 + 64);
+        x.run(1);
+        CHECK.due("13 ticks after it came", x.state(0), 1);
     }
 
     private static void operateJammed() {

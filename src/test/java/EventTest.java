@@ -15,6 +15,7 @@ public final class EventTest {
         twoHundredEvents();
         theTwoHundredthInATickOfTwo();
         exactlyTwoHundred();
+        theTwoHundredStayAsTheyAre();
         placesBelowTwoHundredAfterACrash();
         CHECK.end();
     }
@@ -210,6 +211,31 @@ public final class EventTest {
         CHECK.due("no more events", x.events(), 200);
         CHECK.due("the last one", x.event(199), 2);
         CHECK.due("crash() takes none", x.crash(), 0);
+    }
+
+    private static void theTwoHundredStayAsTheyAre() {
+        for (int first = 0; first < 200; first += 100) {
+            FeederRelays x = Scenes.nineRounds();
+            for (int round = 0; round < 5; round++) {
+                x.run(20);
+                Scenes.closeSeven(x);
+            }
+            CHECK.due("events() after more than 200", x.events(), 200);
+            for (int i = first; i < first + 100; i++) {
+                CHECK.due("event(" + i + ")", x.event(i), eventOfTheRounds(i));
+                CHECK.due("when(" + i + ")", x.when(i), 20 * (i / 21) + (i % 21 < 7 ? 1 : 3));
+            }
+        }
+    }
+
+    /** In each round seven trip, and then each of them is opened and locked. */
+    private static int eventOfTheRounds(int i) {
+        int inRound = i % 21;
+        if (inRound < 7) {
+            return 1 + 8 * (inRound + 1);
+        }
+        int relay = (inRound - 7) / 2 + 1;
+        return (inRound % 2 == 1 ? 2 : 5) + 8 * relay;
     }
 
     private static void placesBelowTwoHundredAfterACrash() {

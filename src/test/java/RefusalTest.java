@@ -1,8 +1,6 @@
 import java.util.ArrayList;
 import java.util.List;
-import java.util.function.Consumer;
 import java.util.function.Predicate;
-import java.util.function.Supplier;
 
 /**
  * "A call that is refused (-1 or false) changes nothing.": every refused call in several scenes.
@@ -12,12 +10,6 @@ public final class RefusalTest {
     private static final int LEAST = Integer.MIN_VALUE;
     private static final int MOST = Integer.MAX_VALUE;
     private static final Check CHECK = new Check();
-
-    /** A call that must be refused; the test tells whether it was. */
-    private record Refusal(String text, Predicate<FeederRelays> refused) { }
-
-    /** A state to refuse calls in, and what is done after them to bring out what does not show at once. */
-    private record Scene(String name, int relays, Supplier<FeederRelays> maker, List<Consumer<FeederRelays>> later) { }
 
     public static void main(String[] args) {
         atFirst();
@@ -32,7 +24,7 @@ public final class RefusalTest {
     }
 
     private static void atFirst() {
-        tryAll(new Scene("no relays, time 0", 0, FeederRelays::new, List.of(
+        tryAll(new Twins.Scene("no relays, time 0", 0, FeederRelays::new, List.of(
             x -> {
                 x.relay(-1);
                 x.relay(0);
@@ -44,7 +36,7 @@ public final class RefusalTest {
     }
 
     private static void noRelaysLater() {
-        tryAll(new Scene("no relays, time 20", 0, () -> {
+        tryAll(new Twins.Scene("no relays, time 20", 0, () -> {
             FeederRelays x = new FeederRelays();
             x.run(20);
             return x;
@@ -52,7 +44,7 @@ public final class RefusalTest {
     }
 
     private static void threeAtFirst() {
-        tryAll(new Scene("three relays, time 0", 3, () -> {
+        tryAll(new Twins.Scene("three relays, time 0", 3, () -> {
             FeederRelays x = Check.chain(3);
             for (int r = 0; r < 3; r++) {
                 x.settings(r, 1, 150, 30);
@@ -70,7 +62,7 @@ public final class RefusalTest {
     }
 
     private static void eightAtFirst() {
-        tryAll(new Scene("eight relays, time 0", 8, () -> {
+        tryAll(new Twins.Scene("eight relays, time 0", 8, () -> {
             FeederRelays x = Check.chain(8);
             for (int r = 0; r < 8; r++) {
                 x.load(r, 90);
@@ -84,7 +76,7 @@ public final class RefusalTest {
 
     /** Settings, being held back and lines come out by sums, blocks and messages. */
     private static void allPickedUp() {
-        tryAll(new Scene("eight in a chain, all picked up", 8, () -> {
+        tryAll(new Twins.Scene("eight in a chain, all picked up", 8, () -> {
             FeederRelays x = Check.chain(8);
             for (int r = 0; r < 8; r++) {
                 x.settings(r, r % 2, 100, 1000);
@@ -105,7 +97,7 @@ public final class RefusalTest {
 
     /** Shots come out by waiting or locking, patience by failing. */
     private static void allWithOrders() {
-        tryAll(new Scene("eight with orders, the half of them jammed", 8, () -> {
+        tryAll(new Twins.Scene("eight with orders, the half of them jammed", 8, () -> {
             FeederRelays x = Check.star(8);
             for (int r = 0; r < 8; r++) {
                 x.settings(r, 0, 100, 1);
@@ -130,10 +122,10 @@ public final class RefusalTest {
 
     private static void waitingAndUnstored() {
         String name = "eight, some waiting, locked or open by hand, messages under way, events not stored";
-        tryAll(new Scene(name, 8, RefusalTest::middle, List.of(
+        tryAll(new Twins.Scene(name, 8, RefusalTest::middle, List.of(
             x -> x.run(6),
             x -> x.run(6))), false);
-        tryAll(new Scene(name + ", then a crash", 8, RefusalTest::middle, List.of(
+        tryAll(new Twins.Scene(name + ", then a crash", 8, RefusalTest::middle, List.of(
             x -> CHECK.due("crash()", x.crash(), 8),
             x -> x.run(6))), false);
     }
@@ -150,15 +142,15 @@ public final class RefusalTest {
     }
 
     private static void twoHundredRecorded() {
-        tryAll(new Scene("eight and 200 events", 8, () -> {
+        tryAll(new Twins.Scene("eight and 200 events", 8, () -> {
             FeederRelays x = Scenes.nineRounds();
             x.run(3);
             return x;
         }, List.of(x -> CHECK.due("crash()", x.crash(), 5))), false);
     }
 
-    private static void tryAll(Scene scene, boolean isStart) {
-        List<Refusal> refusals = new ArrayList<>();
+    private static void tryAll(Twins.Scene scene, boolean isStart) {
+        List<Twins.Act> refusals = new ArrayList<>();
         ofStrangers(refusals, scene.relays());
         for (int r = 0; r < scene.relays(); r++) {
             ofSettings(refusals, r);
@@ -168,49 +160,14 @@ public final class RefusalTest {
         ofNewRelays(refusals, scene.relays(), isStart);
         ofTicks(refusals);
         ofEvents(refusals, scene.maker().get().events());
-
-        List<List<String>> spared = story(scene, new Refusal("nothing", x -> true));
-        for (Refusal refusal : refusals) {
-            List<List<String>> refused = story(scene, refusal);
-            for (int i = 0; i < spared.size(); i++) {
-                String when = i == 0 ? ", right after" : ", at look " + i + " later";
-                same(scene.name() + ", after " + refusal.text() + when, refused.get(i), spared.get(i));
-            }
-        }
+        new Twins(CHECK).changeNothing(scene, refusals);
     }
 
-    /** What is shown after the refusal and after each step then. */
-    private static List<List<String>> story(Scene scene, Refusal refusal) {
-        FeederRelays x = scene.maker().get();
-        int shown = Math.min(8, scene.relays() + 2);
-        List<String> before = Shown.of(x, shown);
-        CHECK.yes(scene.name() + ": refused " + refusal.text(), refusal.refused().test(x));
-        List<List<String>> looks = new ArrayList<>();
-        looks.add(Shown.of(x, shown));
-        same(scene.name() + ", before and after " + refusal.text(), looks.get(0), before);
-        for (Consumer<FeederRelays> step : scene.later()) {
-            step.accept(x);
-            looks.add(Shown.of(x, shown));
-        }
-        return looks;
+    private static void add(List<Twins.Act> refusals, String text, Predicate<FeederRelays> refused) {
+        refusals.add(new Twins.Act(text, refused));
     }
 
-    private static void same(String when, List<String> got, List<String> want) {
-        if (got.equals(want)) {
-            CHECK.yes(when, true);
-            return;
-        }
-        CHECK.yes(when + ": as many answers", got.size() == want.size());
-        for (int i = 0; i < Math.min(got.size(), want.size()); i++) {
-            CHECK.yes(when + ": " + got.get(i) + ", not as without: " + want.get(i), got.get(i).equals(want.get(i)));
-        }
-    }
-
-    private static void add(List<Refusal> refusals, String text, Predicate<FeederRelays> refused) {
-        refusals.add(new Refusal(text, refused));
-    }
-
-    private static void ofStrangers(List<Refusal> refusals, int relays) {
+    private static void ofStrangers(List<Twins.Act> refusals, int relays) {
         for (int r : new int[] {LEAST, -1, relays, relays + 1, 8, MOST}) {
             add(refusals, "settings(" + r + ", 2, 1, 1)", x -> !x.settings(r, 2, 1, 1));
             add(refusals, "options(" + r + ", true, 3, 1)", x -> !x.options(r, true, 3, 1));
@@ -234,7 +191,7 @@ public final class RefusalTest {
     }
 
     // What is beside the wrong argument is never what is set already.
-    private static void ofSettings(List<Refusal> refusals, int r) {
+    private static void ofSettings(List<Twins.Act> refusals, int r) {
         for (int kind : new int[] {LEAST, -1, 3, MOST}) {
             add(refusals, "settings(" + r + ", " + kind + ", 1, 1)", x -> !x.settings(r, kind, 1, 1));
         }
@@ -246,7 +203,7 @@ public final class RefusalTest {
         }
     }
 
-    private static void ofOptions(List<Refusal> refusals, int r) {
+    private static void ofOptions(List<Twins.Act> refusals, int r) {
         for (boolean held : new boolean[] {false, true}) {
             for (int shots : new int[] {LEAST, -1, 4, MOST}) {
                 add(refusals, "options(" + r + ", " + held + ", " + shots + ", 1)", x -> !x.options(r, held, shots, 1));
@@ -258,7 +215,7 @@ public final class RefusalTest {
         }
     }
 
-    private static void ofAmounts(List<Refusal> refusals, int r) {
+    private static void ofAmounts(List<Twins.Act> refusals, int r) {
         for (int amount : new int[] {LEAST, -1, 2001, MOST}) {
             add(refusals, "load(" + r + ", " + amount + ")", x -> !x.load(r, amount));
         }
@@ -270,7 +227,7 @@ public final class RefusalTest {
         }
     }
 
-    private static void ofNewRelays(List<Refusal> refusals, int relays, boolean isStart) {
+    private static void ofNewRelays(List<Twins.Act> refusals, int relays, boolean isStart) {
         for (int above : new int[] {LEAST, -2, -1, 0, 1, 2, 3, 7, 8, 9, MOST}) {
             boolean fits = relays == 0 ? above == -1 : above >= 0 && above < relays;
             if (!isStart || relays == 8 || !fits) {
@@ -279,13 +236,13 @@ public final class RefusalTest {
         }
     }
 
-    private static void ofTicks(List<Refusal> refusals) {
+    private static void ofTicks(List<Twins.Act> refusals) {
         for (int ticks : new int[] {LEAST, -20, -1, 0, 21, MOST}) {
             add(refusals, "run(" + ticks + ")", x -> x.run(ticks) == -1);
         }
     }
 
-    private static void ofEvents(List<Refusal> refusals, int events) {
+    private static void ofEvents(List<Twins.Act> refusals, int events) {
         for (int i : new int[] {LEAST, -1, events, 200, MOST}) {
             add(refusals, "event(" + i + ")", x -> x.event(i) == -1);
             add(refusals, "when(" + i + ")", x -> x.when(i) == -1);
