@@ -34,6 +34,8 @@ public final class BoundsTest {
         leastAndGreatestLagWork();
         oneTickAndTwentyTicksWork();
         the512thCall();
+        eventsAtTheEnd();
+        mostChanges();
         CHECK.end();
     }
 
@@ -294,5 +296,39 @@ public final class BoundsTest {
         long first = 11000L * 11000 - 1 + 15556L * 15556 - 1 + 19052L * 19052 - 1;
         CHECK.due("the 511th call, time()", x.time(), 505 * 20);
         CHECK.due("the 512th call, sum(0)", x.sum(0), first + (505 * 20 - 3) * steady);
+    }
+
+    // As late as 512 calls allow: every time of an order, a message and an event is still right.
+    private static void eventsAtTheEnd() {
+        FeederRelays x = Scenes.pair(3);
+        x.fault(1, 0);
+        x.options(0, true, 0, 50);
+        x.jam(1, true);
+        for (int call = 0; call < 480; call++) {
+            x.run(20);
+        }
+        x.fault(1, 1000);
+        x.run(1);
+        CHECK.due("known at 9601", x.known(1), 0);
+        x.run(1);
+        CHECK.due("known at 9602", x.known(1), 3);
+        CHECK.due("blocked at 9602", x.state(0), 1 + 64);
+        x.run(4);
+        CHECK.events("at the end", x, 1, 1, 9601, 6, 1, 9604, 7, 0, 9604, 2, 0, 9606, 5, 0, 9606);
+    }
+
+    /** Four changes in two calls: picked up and not, twice. */
+    private static void mostChanges() {
+        FeederRelays x = Scenes.pair(50);
+        x.options(1, false, 1, 50);
+        for (int round = 1; round <= 160; round++) {
+            x.run(20);
+            x.operate(1, true);
+            if (round % 20 == 0) {
+                CHECK.due("changes after round " + round, x.changes(1), 4 * round);
+                CHECK.due("known after round " + round, x.known(1), 8 * round);
+                CHECK.due("events after round " + round, x.events(), Math.min(200, 6 * round));
+            }
+        }
     }
 }

@@ -5,6 +5,8 @@ public final class BreakerTest {
     public static void main(String[] args) {
         threeShotsThenLocked();
         reclaimAfterThirtyTicks();
+        reclaimAnyNumberOfShots();
+        reclaimAgain();
         noReclaimWithAnOrder();
         fewerShotsWhileWaiting();
         jamHoldsTheBreaker();
@@ -14,6 +16,7 @@ public final class BreakerTest {
         failingOnlyWhenPickedUp();
         failingWithTheOneAboveBusyOrOpen();
         orderFromBelowLocks();
+        ordersOfBothSorts();
         patienceOfOne();
         operateOpensAndLocks();
         operateClosesAndClears();
@@ -71,6 +74,40 @@ public final class BreakerTest {
         Check.runTo(x, 41);
         CHECK.due("a shot again", x.state(0), 2 + 8);
         CHECK.events("reclaim", x, 1, 0, 1, 2, 0, 3, 3, 0, 8, 4, 0, 38, 1, 0, 39, 2, 0, 41);
+    }
+
+    private static void reclaimAnyNumberOfShots() {
+        int[] opensAt = {3, 10, 32};
+        int[] closesAt = {8, 30, 82};
+        for (int shots = 1; shots <= 3; shots++) {
+            FeederRelays x = Scenes.quick(shots);
+            Check.runTo(x, opensAt[shots - 1]);
+            x.fault(0, 0);
+            Check.runTo(x, closesAt[shots - 1] + 29);
+            CHECK.due("used of " + shots, x.used(0), shots);
+            x.run(1);
+            CHECK.due("used of " + shots + " after 30 ticks", x.used(0), 0);
+            CHECK.due("reclaimed at once", x.event(x.events() - 1), 4);
+            CHECK.due("the event before", x.event(x.events() - 2), 3);
+        }
+    }
+
+    private static void reclaimAgain() {
+        FeederRelays x = Scenes.quick(1);
+        for (int round = 0; round < 5; round++) {
+            int start = 40 * round;
+            x.fault(0, 1000);
+            x.run(3);
+            CHECK.due("waiting in round " + round, x.state(0), 2 + 8);
+            x.fault(0, 0);
+            Check.runTo(x, start + 37);
+            CHECK.due("used in round " + round, x.used(0), 1);
+            Check.runTo(x, start + 40);
+            CHECK.due("used after round " + round, x.used(0), 0);
+            CHECK.due("events after round " + round, x.events(), 4 * (round + 1));
+            CHECK.due("the event of round " + round, x.event(4 * round + 3), 4);
+            CHECK.due("the time of round " + round, x.when(4 * round + 3), start + 38);
+        }
     }
 
     private static void noReclaimWithAnOrder() {
@@ -191,6 +228,32 @@ public final class BreakerTest {
         x.run(6);
         CHECK.due("an order from below takes no shot", x.state(0), 16);
         CHECK.due("used by an order from below", x.used(0), 0);
+    }
+
+    // "if the order was its own": that order, not an earlier one
+    private static void ordersOfBothSorts() {
+        FeederRelays x = Scenes.pair(2);
+        x.fault(1, 0);
+        x.settings(0, 0, 100, 1);
+        x.options(0, false, 3, 50);
+        x.fault(0, 1000);
+        x.run(3);
+        CHECK.due("its own order", x.state(0), 2 + 8);
+        x.operate(0, true);
+        x.settings(0, 0, 5000, 1000);
+        x.fault(0, 0);
+        x.fault(1, 1000);
+        x.jam(1, true);
+        x.run(5);
+        CHECK.due("then one from below", x.state(0), 16);
+        x.operate(0, true);
+        x.operate(1, false);
+        x.settings(0, 0, 100, 1);
+        x.fault(0, 1000);
+        x.run(3);
+        CHECK.due("then its own again", x.state(0), 2 + 8);
+        CHECK.events("orders of both sorts", x,
+            1, 0, 1, 2, 0, 3, 1, 1, 4, 6, 1, 6, 7, 0, 6, 2, 0, 8, 5, 0, 8, 1, 0, 9, 2, 0, 11);
     }
 
     private static void patienceOfOne() {

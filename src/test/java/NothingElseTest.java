@@ -11,13 +11,17 @@ public final class NothingElseTest {
         blockedGetsAnOrderFromBelow();
         blockedClosesAgain();
         blockedReclaims();
+        blockedAndJammedDoesNotTrip();
         pickedUpReclaims();
         notFedReclaims();
         notFedClosesAgain();
+        waitsWhileTheOneAboveOpens();
         notFedTrips();
         notFedMeasures();
         openOneIsBlocked();
         openOneSends();
+        breakersSendNothing();
+        lockedOneStaysKnown();
         openSectionIsSet();
         onlyTheOneDirectlyAboveIfOpen();
         onlyTheOneDirectlyAboveIfOrdered();
@@ -121,6 +125,21 @@ public final class NothingElseTest {
         CHECK.events("reclaimed though blocked", x, 1, 0, 1, 2, 0, 3, 3, 0, 8, 4, 0, 38);
     }
 
+    private static void blockedAndJammedDoesNotTrip() {
+        FeederRelays x = Check.chain(2);
+        x.settings(0, 0, 100, 2);
+        x.options(0, true, 0, 50);
+        x.jam(0, true);
+        x.settings(1, 0, 100, 1000);
+        x.fault(1, 1000);
+        x.run(20);
+        CHECK.due("over its limit, jammed and blocked", x.state(0), 1 + 2 + 32 + 64);
+        CHECK.events("not tripped", x);
+        x.options(0, false, 0, 50);
+        x.run(1);
+        CHECK.events("tripped when not held back, though jammed", x, 1, 0, 21);
+    }
+
     private static void pickedUpReclaims() {
         FeederRelays x = closedAtEight(1);
         x.settings(0, 0, 100, 1000);
@@ -130,6 +149,7 @@ public final class NothingElseTest {
         CHECK.due("used at 37", x.used(0), 1);
         x.run(1);
         CHECK.due("used at 38", x.used(0), 0);
+        CHECK.due("its sum grows on", x.sum(0), 30);
         CHECK.events("reclaimed though picked up", x, 1, 0, 1, 2, 0, 3, 3, 0, 8, 4, 0, 38);
     }
 
@@ -152,6 +172,18 @@ public final class NothingElseTest {
         CHECK.due("used", x.used(1), 1);
         CHECK.due("no current", x.current(1), 0);
         CHECK.events("closed again", x, 1, 1, 1, 2, 1, 3, 3, 1, 8);
+    }
+
+    private static void waitsWhileTheOneAboveOpens() {
+        FeederRelays x = Scenes.pair(50);
+        x.settings(0, 0, 100, 2);
+        x.options(1, false, 1, 50);
+        x.run(4);
+        CHECK.due("the one above opens by its order", x.state(0), 2 + 16);
+        CHECK.due("still waiting", x.state(1), 2 + 8);
+        x.run(4);
+        CHECK.due("closed", x.state(1), 1);
+        CHECK.events("closed again", x, 1, 1, 1, 1, 0, 2, 2, 1, 3, 2, 0, 4, 5, 0, 4, 3, 1, 8);
     }
 
     private static void notFedReclaims() {
@@ -219,6 +251,45 @@ public final class NothingElseTest {
         x.line(1, 0);
         x.run(1);
         CHECK.due("known when it came", x.known(1), 4);
+    }
+
+    /** Relay 1 trips at 1, opens at 3, closes at 8 and reclaims at 38; its line is cut but in one tick. */
+    private static int knownOfOneSentAt(int tick) {
+        FeederRelays x = Scenes.pair(50);
+        x.options(1, false, 1, 50);
+        x.line(1, 0);
+        for (int t = 1; t <= tick + 1; t++) {
+            x.line(1, t == tick ? 1 : 0);
+            x.run(1);
+            if (t == 3) {
+                x.fault(1, 0);
+            }
+        }
+        return x.known(1);
+    }
+
+    // Messages are sent when it changes, at 1 and 6, and when they are due, whatever the breaker does.
+    private static void breakersSendNothing() {
+        for (int tick = 1; tick <= 55; tick++) {
+            int due = 0;
+            for (int sent : new int[] {1, 2, 4}) {
+                due = tick == sent ? 3 : due;
+            }
+            for (int sent : new int[] {6, 7, 9, 13, 21, 29, 37, 45, 53}) {
+                due = tick == sent ? 4 : due;
+            }
+            CHECK.due("known of one sent at " + tick, knownOfOneSentAt(tick), due);
+        }
+    }
+
+    private static void lockedOneStaysKnown() {
+        FeederRelays x = Scenes.pair(50);
+        x.run(2);
+        CHECK.due("known with an order", x.known(1), 3);
+        x.run(1);
+        CHECK.due("locked", x.state(1), 2 + 16);
+        CHECK.due("known when locked", x.known(1), 3);
+        CHECK.due("changes when locked", x.changes(1), 1);
     }
 
     private static void openSectionIsSet() {
